@@ -1,4 +1,4 @@
-/** A byte goes out with LOW just at 2^27, or with a carry that makes the last byte a 255. */
+/** A byte goes out with LOW just at 2^27, or just below it, behind all kinds of last bytes. */
 public final class CarryTest {
     private static final int EVEN_STATE = 46;
     private static final int SMALLEST_PART_STATE = 45;
@@ -19,8 +19,11 @@ public final class CarryTest {
     public static void main(String[] args) {
         int[] lasts = new int[257];
         for (int i = 0; i < TRIES; i++) {
-            int last = new CarryTest().carries();
+            long same = seed;
+            int last = new CarryTest().goesOut(0);
             lasts[last < 0 ? 256 : last]++;
+            seed = same;
+            new CarryTest().goesOut(1);
         }
         Checks.due("carries were made", TRIES - lasts[256] > TRIES / 10 ? 1 : 0, 1);
         Checks.due("one of them into a 254", lasts[254] > 0 ? 1 : 0, 1);
@@ -48,8 +51,11 @@ public final class CarryTest {
         return last != 255 && lack() > 0 && lack() <= x.register(1) - 32768;
     }
 
-    /** The byte that took the carry, as it was before; -1 if this try came to none. */
-    private int carries() {
+    /**
+     * LOW is 2^27 when the byte is out, or as little below it as can be. Answers the byte that had been the
+     * last one, as it was before; -1 if this try came to none.
+     */
+    private int goesOut(int below) {
         for (int i = 0; i < 120 && !canGrow(); i++) {
             write(EVEN_STATE, anyBit());
         }
@@ -59,14 +65,14 @@ public final class CarryTest {
         int place = x.at(-1) - 1;
         int last = x.at(place);
         for (int i = 0; i < STATES.length; i++) {
-            while (lack() >= PARTS[i]) {
+            while (lack() - below >= PARTS[i]) {
                 write(STATES[i], 0);
             }
         }
         // The other bit of the smallest part leaves LOW as it is, and doubles it fifteen times.
         write(SMALLEST_PART_STATE, 1);
-        Checks.due("the byte that took the carry", x.at(place), last + 1);
-        Checks.due("the byte behind it", x.at(place + 1), 0);
+        Checks.due("the byte that takes a carry", x.at(place), last + 1 - below);
+        Checks.due("the byte behind it", x.at(place + 1), 255 * below);
         Checks.due("what is seen then", Checks.seen(x), model.seen());
         return last;
     }

@@ -12,6 +12,7 @@ public final class LimitsTest {
         putsUpTo65536();
         writesUpTo65000(true);
         writesUpTo65000(false);
+        codedBytesCountToo();
         segmentsInAFullRow();
         dearestWrites();
         readsOnAndOn();
@@ -62,6 +63,19 @@ public final class LimitsTest {
         Checks.due("write, the 65,001st byte", y.write(-1, 0, 8), 2);
         Checks.refused("write, the 65,002nd byte", UNSUPPORTED, y, () -> y.write(-1, 0, 8));
         Checks.due("close behind it", y.close(0), 2);
+    }
+
+    private static void codedBytesCountToo() {
+        LikelyBits x = with(64999);
+        x.open(false);
+        Steps.write(x, "43-");
+        Checks.due("bytes behind the first one out", x.at(-1), 65000);
+        Steps.write(x, "39-");
+        Checks.due("bytes behind the second one out", x.at(-1), 65001);
+        Checks.refused("write, coded, more than 65,000", UNSUPPORTED, x, () -> x.write(0, 0, 1));
+        Checks.due("enough() there", x.enough(), 7);
+        Checks.due("close(1) there", x.close(1), 3);
+        Checks.due("put there", x.put(5), 65003);
     }
 
     private static void segmentsInAFullRow() {
