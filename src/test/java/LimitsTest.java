@@ -34,7 +34,7 @@ public final class LimitsTest {
         for (int k = 0; k < 65535; k++) {
             Checks.due("at(" + k + ")", x.at(k), k * 7 & 255);
         }
-        Checks.refused("put, the 65,537th", UNSUPPORTED, x, () -> x.put(77));
+        Checks.refused("put, the 65,537th", UNSUPPORTED, x, () -> x.put(78));
         Checks.refused("put(256), the 65,537th", "IllegalArgumentException", x, () -> x.put(256));
         x.read(true, 65535, 1);
         Checks.due("bits of the last byte", x.bits(-1, 8), 77);
